@@ -39,16 +39,20 @@ final class Check {
 
     /** The very class is asked for: an exception of the Java machine would be one of a class below it. */
     static void refused(String what, Class<?> due, Call call) {
-        same(what, outcome(call), "throws." + due.getName());
-    }
-
-    private static String outcome(Call call) {
         try {
             call.run();
-            return "nothing thrown";
+            same(what, "nothing thrown", "throws." + due.getName());
         } catch (RuntimeException thrown) {
-            return "throws." + thrown.getClass().getName();
+            same(what, named(thrown), "throws." + due.getName());
         }
+    }
+
+    /** Tells too if it was the library that threw: the program has to look at an index before it hands it on. */
+    static String named(RuntimeException thrown) {
+        StackTraceElement[] calls = thrown.getStackTrace();
+        String place = calls.length == 0 ? "" : calls[0].getClassName();
+        String name = "throws." + thrown.getClass().getName();
+        return place.startsWith("java.") || place.startsWith("jdk.") ? name + " in " + place : name;
     }
 
     static void end(String test) {

@@ -48,7 +48,7 @@ public final class ModelTest {
         try {
             return "" + call.answer();
         } catch (RuntimeException thrown) {
-            return "throws." + thrown.getClass().getName();
+            return Check.named(thrown);
         }
     }
 

@@ -76,25 +76,33 @@ public final class ShowsTest {
         Check.same("9: ahead of all", loom.cast(3, 0), 1);
     }
 
-    private static void wornPuppets() {
+    /** Has five shows behind it and the sixth ahead: 48 worn joints, and as many as it had keys in the fifth show. */
+    private static Puppetloom loomWithWorn(int keysInTheFifth) {
         Puppetloom loom = loomWithKeys(12);
         for (int number = 0; number < 6; number++) {
             loom.show(number * 10, 10);
         }
-        for (int number = 0; number < 4; number++) {
+        for (int number = 0; number < 5; number++) {
             loom.cast(number, 0);
+            for (int frame = 11; number == 4 && frame >= keysInTheFifth; frame--) {
+                loom.cutKey(0, frame);
+            }
             loom.perform(number);
         }
-        Check.same("21: worn", loom.worn(0), 48);
-        for (int frame = 2; frame < 12; frame++) {
-            loom.cutKey(0, frame);
-        }
-        Check.same("9: 48 worn joints", loom.cast(4, 0), 1);
-        loom.perform(4);
+        return loom;
+    }
+
+    private static void wornPuppets() {
+        Puppetloom nearly = loomWithWorn(1);
+        Check.same("21: worn", nearly.worn(0), 49);
+        Check.same("9: 49 worn joints", nearly.cast(5, 0), 1);
+        Puppetloom loom = loomWithWorn(2);
         Check.same("21: worn", loom.worn(0), 50);
         Check.refused("9: 50 worn joints", Check.STATE, () -> loom.cast(5, 0));
         Check.same("13: minutes", loom.mend(0, 100), 50);
         Check.same("9: mended", loom.cast(5, 0), 1);
+        Puppetloom more = loomWithWorn(3);
+        Check.refused("9: 51 worn joints", Check.STATE, () -> more.cast(5, 0));
     }
 
     private static void leaving() {

@@ -246,6 +246,8 @@ public final class TracksTest {
         Check.same("19: a whole root", loom.least(0), 5);
         loom.key(0, 999, 4, 4, 0);
         Check.same("19: rounded up", loom.least(0), 6);
+        loom.key(0, 0, 1, 0, 0);
+        Check.same("19: at the last frame that can have a key", loom.least(0), 6);
         loom.key(0, 0, 10, 0, 3);
         Check.same("19: the farthest one", loom.least(0), 10);
         loom.key(0, 500, 999, 999, 3);
