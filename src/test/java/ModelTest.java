@@ -3,9 +3,6 @@ import java.util.Random;
 
 /** All promises: long runs of calls, by fixed seeds, answered as the model answers; wild arguments among them. */
 public final class ModelTest {
-    private static final String[] NAMES = {"puppet", "setLength", "key", "cutKey", "hear", "cue", "show", "cast",
-        "leave", "sell", "perform", "mend", "track", "trackByFrames", "x", "y", "bent", "least", "isBusy", "worn",
-        "income"};
     private static final int[] WILD = {Integer.MIN_VALUE, -2, -1, 0, 1, 5, 7, 8, 9, 10, 12, 50, 51, 99, 100, 101, 600,
         601, 999, 1000, 1500, 1501, 1999, 2000, 100000, 100001, 200000, 200001, 65536, Integer.MAX_VALUE};
     // How often each call comes: more of what builds up, and of what is asked of a show.
@@ -35,20 +32,8 @@ public final class ModelTest {
         for (int i = 0; i < 512; i++) {
             int call = drawCall();
             int[] a = random.nextInt(25) == 0 ? wildArguments() : arguments(call);
-            Check.same("seed " + seed + ", call " + i + ": " + NAMES[call] + Arrays.toString(a),
-                outcome(() -> answer(loom, call, a)), outcome(() -> model.answer(call, a)));
-        }
-    }
-
-    private interface Call {
-        int answer();
-    }
-
-    private static String outcome(Call call) {
-        try {
-            return "" + call.answer();
-        } catch (RuntimeException thrown) {
-            return Check.named(thrown);
+            Check.same("seed " + seed + ", call " + i + ": " + Calls.NAMES[call] + Arrays.toString(a),
+                Calls.outcome(loom, call, a), Calls.outcome(() -> model.answer(call, a)));
         }
     }
 
@@ -93,32 +78,6 @@ public final class ModelTest {
             case 14: case 15: return new int[] {show, puppet, frame};
             case 16: return new int[] {show, puppet, below(100), below(3) == 0 ? below(2000) : below(100)};
             default: return new int[] {puppet, frame};
-        }
-    }
-
-    private static int answer(Puppetloom loom, int call, int[] a) {
-        switch (call) {
-            case 0: return loom.puppet(a[0], a[1]);
-            case 1: return loom.setLength(a[0], a[1]);
-            case 2: return loom.key(a[0], a[1], a[2], a[3], a[4]);
-            case 3: return loom.cutKey(a[0], a[1]);
-            case 4: return loom.hear(a[0], a[1]);
-            case 5: return loom.cue(a[0], a[1]);
-            case 6: return loom.show(a[0], a[1]);
-            case 7: return loom.cast(a[0], a[1]);
-            case 8: return loom.leave(a[0], a[1]);
-            case 9: return loom.sell(a[0], a[1], a[2]);
-            case 10: return loom.perform(a[0]);
-            case 11: return loom.mend(a[0], a[1]);
-            case 12: return loom.track(a[0], a[1]);
-            case 13: return loom.trackByFrames(a[0], a[1]);
-            case 14: return loom.x(a[0], a[1], a[2]);
-            case 15: return loom.y(a[0], a[1], a[2]);
-            case 16: return loom.bent(a[0], a[1], a[2], a[3]);
-            case 17: return loom.least(a[0]);
-            case 18: return loom.isBusy(a[0], a[1]) ? 1 : 0;
-            case 19: return loom.worn(a[0]);
-            default: return loom.income();
         }
     }
 }
